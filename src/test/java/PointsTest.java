@@ -62,6 +62,11 @@ public final class PointsTest {
         x.time(2, 1, 160);
         // 150 - 160 instead of 150 - 190: 30 by 6.
         levelIs(x, 0, 1, 5, 1);
+        DrumBoats y = emptyCrews(2);
+        race(y, 0, 0, 1, 1, 1);
+        race(y, 0, 1, 2, 0, 4);
+        // 1 - 4 and 2 - 1.
+        levelIs(y, 0, 1, -1, 1);
     }
 
     private static void levelRefusals() {

@@ -147,6 +147,17 @@ public final class RacesTest {
         Check.due("bad ahead of full", x.race(5, 2), -2);
         Check.due("they wait on", x.count(4), 2);
         Check.due("count(3)", x.count(3), 24);
+        // The last race counts like the others, and there is nothing behind it.
+        x.time(23, 0, 1);
+        x.time(23, 1, 2);
+        Check.due("count(8) of 24 races", x.count(8), 2);
+        Check.due("its second place", x.told(23, 1, 2), 2);
+        Check.due("finalists of 24 races", x.finalists(1, 0), 1);
+        Check.due("slack of 24 races", x.slack(), 10);
+        Check.due("points of 24 races", x.points(0), 0);
+        Check.due("table of 24 races", x.table(1), 1);
+        Check.due("level of 24 races", x.level(0, 1, 0), Long.MIN_VALUE);
+        Check.due("no race 24", x.told(24, 0, 0), -1);
     }
 
     private static void current() {
@@ -433,6 +444,8 @@ public final class RacesTest {
         finalistsAre(x, 0, 1, 3);
         x.again(1);
         finalistsAre(x, 0, 9, 3, 0, 1, 2);
+        x.time(0, 3, 1);
+        finalistsAre(x, 1, 1, 3, 0);
     }
 
     private static void finalistsRefusals() {

@@ -126,10 +126,10 @@ public final class RulesTest {
         Check.due("count(2)", x.count(2), 6);
     }
 
-    /** Seated: men of 20 and 40, women of 17 and 39; weights 50, 60, 70, 81; a child waits ashore. */
+    /** Seated: men of 18 and 40, women of 17 and 39; weights 50, 60, 70, 81; a child waits ashore. */
     private static DrumBoats seatedCrew() {
         DrumBoats x = new DrumBoats();
-        x.paddler(50, 50, 0, 0, 20);
+        x.paddler(50, 50, 0, 0, 18);
         x.paddler(60, 50, 1, 0, 40);
         x.paddler(70, 50, 0, 1, 17);
         x.paddler(81, 50, 1, 1, 39);
@@ -201,5 +201,6 @@ public final class RulesTest {
         Check.due("not seated", x.keeps(1, 0), -3);
         Check.due("not seated, no rule", x.keeps(1, 1), -1);
         Check.due("keeps", x.keeps(0, 0), 1);
+        Check.due("keeps once more", x.keeps(0, 0), 1);
     }
 }
