@@ -303,8 +303,8 @@ public final class DrumBoats {
         }
         int was = timed.times[lane];
         timed.times[lane] = hundredths;
-        // A told 0 is telling too: who is told to be OUT may not be RUN after it.
-        timed.begun = true;
+        // A told 0 is no TIME: it does not keep the RACE from being RUN.
+        timed.begun = timed.begun || hundredths > 0;
         return was;
     }
 

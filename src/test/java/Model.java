@@ -430,7 +430,9 @@ final class Model {
         }
         int was = s.time;
         s.time = hundredths;
-        events.get(race).begun = true;
+        if (hundredths != 0) {
+            events.get(race).begun = true;
+        }
         return was;
     }
 

@@ -263,10 +263,17 @@ public final class RacesTest {
         Check.due("may be run again", x.run(0, 100), 2);
         x.again(0);
         x.time(0, 0, 0);
-        Check.due("one was told to be out", x.run(0, 100), -3);
+        Check.due("who is told to be out has no time told", x.run(0, 100), 2);
+        Check.due("and is run like the others", x.told(0, 0, 3) > 0 ? 1 : 0, 1);
+        x.time(0, 0, 0);
+        Check.due("told to be out once it was run", x.run(0, 100), -3);
         x.again(0);
         Check.due("a refused time", x.time(0, 0, 100000), -2);
         Check.due("is not told", x.run(0, 100), 2);
+        x.again(0);
+        x.time(0, 0, 5);
+        x.strike(0, 0);
+        Check.due("a time was told of one struck since", x.run(0, 100), -3);
     }
 
     private static void runNotForAll() {
